@@ -292,23 +292,19 @@ public final class LazyPages {
 
         void write(int key, long value) {
             Page page = pages[pageOf(key)];
-            int place = page.below(key);
-            if (page.holdsAt(place, key)) {
-                page.setValueAt(place, value);
-            } else {
-                insert(key, value);
+            if (page.holdsAt(page.below(key), key)) {
+                page.setValueAt(page.below(key), value);
+                return;
             }
-        }
-
-        void insert(int key, long value) {
-            if (pages[pageOf(key)].used == PAGE_LENGTH) {
+            if (page.used == PAGE_LENGTH) {
                 splitPageOf(key);
+                page = pages[pageOf(key)];
             }
-            Page page = pages[pageOf(key)];
             page.insertAt(page.below(key), key, value);
             size++;
         }
 
+        /** The page must be full: joining then leaves it full, as only empty ones fit to it. */
         void splitPageOf(int key) {
             if (pageCount == PAGE_LIMIT) {
                 joinPages();
@@ -543,10 +539,10 @@ public final class LazyPages {
 
         /** The right one must be the next page, and both must fit into one. */
         void takeAllOf(Page right) {
-            pushDown();
-            right.pushDown();
             System.arraycopy(right.keys, 0, keys, used, right.used);
-            System.arraycopy(right.values, 0, values, used, right.used);
+            for (int place = 0; place < right.used; place++) {
+                setValueAt(used + place, right.valueAt(place));
+            }
             used += right.used;
             high = right.high;
         }

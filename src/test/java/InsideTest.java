@@ -1,4 +1,5 @@
 import java.lang.reflect.Field;
+import java.util.Arrays;
 
 /**
  * What no call shows of promises 17 and 22: that messages do wait and that settle sends them down,
@@ -23,7 +24,7 @@ public final class InsideTest {
 
     private static Object[] pages(Object table) throws ReflectiveOperationException {
         Object[] all = (Object[]) field(table, "pages").get(table);
-        return java.util.Arrays.copyOf(all, field(table, "pageCount").getInt(table));
+        return Arrays.copyOf(all, field(table, "pageCount").getInt(table));
     }
 
     private static int[] keys(Object page) throws ReflectiveOperationException {
@@ -38,12 +39,16 @@ public final class InsideTest {
         return field(owner, name).getInt(owner);
     }
 
-    private static int waitingPages(LazyPages x) throws ReflectiveOperationException {
+    private static int waitingPages(Object table) throws ReflectiveOperationException {
         int waiting = 0;
-        for (Object page : pages(table(x, "map"))) {
+        for (Object page : pages(table)) {
             waiting += field(page, "waiting").getLong(page) == 0 ? 0 : 1;
         }
         return waiting;
+    }
+
+    private static Object view(LazyPages x, int number) throws ReflectiveOperationException {
+        return ((Object[]) table(x, "views"))[number];
     }
 
     private static void due(String what, boolean holds) {
@@ -56,56 +61,100 @@ public final class InsideTest {
     private static LazyPages some() {
         LazyPages x = new LazyPages();
         x.putAll(-300, 2, 5, 3, 300);
-        x.save(1);
+        for (int view = 0; view < 4; view++) {
+            x.save(view);
+        }
         x.sync();
         return x;
     }
 
     private static void settling() throws ReflectiveOperationException {
         LazyPages x = some();
-        x.raise(-250, 250, 7);
-        due("a raise waits in whole pages", waitingPages(x) > 1);
+        Object map = table(x, "map");
+        x.raise(-300, 300, 7);
+        due("a raise waits in all pages", waitingPages(map) == pages(map).length);
         long before = x.sum(-1, -300, 300);
+        x.save(0);
+        x.sync();
+        due("nothing waits in a view", waitingPages(view(x, 0)) == 0);
+        due("nothing waits in what is kept", waitingPages(table(x, "kept")) == 0);
         x.settle();
-        due("nothing waits after settle", waitingPages(x) == 0);
+        due("nothing waits after settle", waitingPages(map) == 0);
         due("settle changes no sum", x.sum(-1, -300, 300) == before);
+        due("settle changes no value", x.differ(-1, 0) == 0);
     }
 
-    private static void damaged(String what, String name, Damage damage) throws ReflectiveOperationException {
-        LazyPages x = some();
-        Object table = name.equals("views") ? ((Object[]) table(x, name))[1] : table(x, name);
+    /** Both halves of a page have what waited in the whole of it. */
+    private static void splitting() throws ReflectiveOperationException {
+        LazyPages x = new LazyPages();
+        x.putAll(0, 10, 0, 1, 32);
+        x.raise(0, 310, 1000);
+        due("one page", pages(table(x, "map")).length == 1);
+        x.put(155, 5);
+        due("two pages", pages(table(x, "map")).length == 2);
+        due("the sum of both", x.sum(-1, 0, 310) == 31 * 16 + 32_000 + 5);
+        due("the values of both", x.get(-1, 0) == 1000 && x.get(-1, 155) == 5 && x.get(-1, 310) == 1031);
+    }
+
+    private static void seen(String what, LazyPages x, Object table, Damage damage) throws ReflectiveOperationException {
         due("isSound before " + what, x.isSound());
         damage.to(table, pages(table));
-        due("isSound does not see " + what + " in " + name, !x.isSound());
+        due("isSound sees " + what, !x.isSound());
     }
 
-    private static void damagedEverywhere(String what, Damage damage) throws ReflectiveOperationException {
-        damaged(what, "map", damage);
-        damaged(what, "kept", damage);
-        damaged(what, "views", damage);
+    private static void damaged(String what, Damage damage) throws ReflectiveOperationException {
+        LazyPages x = some();
+        seen(what + " in the map", x, table(x, "map"), damage);
+        LazyPages y = some();
+        seen(what + " in what is kept", y, table(y, "kept"), damage);
+        for (int view = 0; view < 4; view++) {
+            LazyPages z = some();
+            seen(what + " in view " + view, z, view(z, view), damage);
+        }
+    }
+
+    /** So many keys in a page, rising from its lower bound, and all else as it should be. */
+    private static void fill(Object table, Object page, int used) throws ReflectiveOperationException {
+        int[] keys = new int[Math.max(used, 0)];
+        for (int i = 0; i < used; i++) {
+            keys[i] = read(page, "low") + i;
+        }
+        set(table, "size", read(table, "size") - read(page, "used") + used);
+        set(page, "used", used);
+        field(page, "keys").set(page, keys);
     }
 
     private static void soundness() throws ReflectiveOperationException {
-        damagedEverywhere("a page that is too long", (table, pages) -> set(pages[1], "used", 33));
-        damagedEverywhere("a page of less than no keys", (table, pages) -> set(pages[1], "used", -1));
-        damagedEverywhere("two equal keys", (table, pages) -> keys(pages[1])[3] = keys(pages[1])[2]);
-        damagedEverywhere("falling keys", (table, pages) -> keys(pages[1])[3] = keys(pages[1])[2] - 1);
-        damagedEverywhere("a key below its bound", (table, pages) -> keys(pages[1])[0] = read(pages[1], "low") - 1);
-        damagedEverywhere("a key above its bound", (table, pages) ->
+        damaged("a page that is too long", (table, pages) -> fill(table, pages[pages.length - 1], 33));
+        damaged("a page of less than no keys", (table, pages) -> fill(table, pages[1], -1));
+        damaged("two equal keys", (table, pages) -> keys(pages[1])[0] = keys(pages[1])[1]);
+        damaged("falling keys", (table, pages) -> keys(pages[1])[3] = keys(pages[1])[2] - 1);
+        damaged("a key below its bound", (table, pages) -> keys(pages[1])[0] = read(pages[1], "low") - 1);
+        damaged("a key above its bound", (table, pages) ->
             keys(pages[1])[read(pages[1], "used") - 1] = read(pages[1], "high") + 1);
-        damagedEverywhere("a first page that begins too late", (table, pages) -> set(pages[0], "low", -400));
-        damagedEverywhere("a last page that ends too early", (table, pages) -> set(pages[pages.length - 1], "high", 400));
-        damagedEverywhere("pages with a gap", (table, pages) -> set(pages[1], "low", read(pages[1], "low") - 1));
-        damagedEverywhere("a page that ends before it begins", (table, pages) -> {
-            set(pages[0], "used", 0);
-            set(pages[0], "high", Integer.MIN_VALUE);
-            set(pages[0], "low", Integer.MAX_VALUE);
+        damaged("a first page that begins too late", (table, pages) -> set(pages[0], "low", -400));
+        damaged("a last page that ends too early", (table, pages) -> set(pages[pages.length - 1], "high", 400));
+        damaged("pages with a gap", (table, pages) -> set(pages[1], "low", read(pages[1], "low") - 1));
+        damaged("two pages of the same keys", (table, pages) -> {
+            set(pages[0], "high", Integer.MAX_VALUE);
+            set(pages[1], "low", Integer.MIN_VALUE);
         });
-        damagedEverywhere("a wrong number of keys", (table, pages) -> set(table, "size", 299));
+        damaged("a page that ends before it begins", (table, pages) -> {
+            fill(table, pages[1], 0);
+            set(pages[1], "high", read(pages[1], "low") - 1);
+            set(pages[2], "low", read(pages[1], "low"));
+        });
+        damaged("a wrong number of keys", (table, pages) -> set(table, "size", 299));
         LazyPages x = some();
-        keys(pages(((Object[]) table(x, "views"))[1])[1])[3] = 0;
+        keys(pages(view(x, 1))[1])[3] = 0;
         x.drop(1);
         due("isSound looks away from a view that is none", x.isSound());
+        LazyPages y = some();
+        Object map = table(y, "map");
+        fill(map, pages(map)[pages(map).length - 1], 32);
+        due("a full page is as it should be", y.isSound());
+        fill(map, pages(map)[1], 0);
+        due("an empty page is as it should be", y.isSound());
     }
 
     /** Few keys in many pages, over and over: pages must be joined before they run out. */
@@ -131,6 +180,7 @@ public final class InsideTest {
 
     public static void main(String[] args) throws ReflectiveOperationException {
         settling();
+        splitting();
         soundness();
         joining();
         System.out.println(wrong == 0 ? "the inside is as due" : wrong + " things are not as due");

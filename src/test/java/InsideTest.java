@@ -6,7 +6,9 @@ import java.util.Arrays;
  * and that isSound sees a page that is not as it should be. Looks into the object for this.
  */
 public final class InsideTest {
-    private static int wrong = 0;
+    private interface Look {
+        void inside() throws ReflectiveOperationException;
+    }
 
     private interface Damage {
         void to(Object table, Object[] pages) throws ReflectiveOperationException;
@@ -52,10 +54,7 @@ public final class InsideTest {
     }
 
     private static void due(String what, boolean holds) {
-        if (!holds) {
-            wrong++;
-            System.out.println("not so: " + what);
-        }
+        Checks.due(what, holds, true);
     }
 
     private static LazyPages some() {
@@ -124,17 +123,44 @@ public final class InsideTest {
         field(page, "keys").set(page, keys);
     }
 
-    private static void soundness() throws ReflectiveOperationException {
-        damaged("a page that is too long", (table, pages) -> fill(table, pages[pages.length - 1], 33));
+    /** The map with one page changed, which is still as it should be. */
+    private static void stillSound(String what, Damage change) throws ReflectiveOperationException {
+        LazyPages x = some();
+        Object map = table(x, "map");
+        change.to(map, pages(map));
+        due("isSound with " + what, x.isSound());
+    }
+
+    private static void noneTooLong() throws ReflectiveOperationException {
+        stillSound("a page of 31 keys", (table, pages) -> fill(table, pages[pages.length - 1], 31));
+        stillSound("a full page of 32 keys", (table, pages) -> fill(table, pages[pages.length - 1], 32));
+        damaged("a page of 33 keys", (table, pages) -> fill(table, pages[pages.length - 1], 33));
+        stillSound("a page of no keys", (table, pages) -> fill(table, pages[1], 0));
         damaged("a page of less than no keys", (table, pages) -> fill(table, pages[1], -1));
-        damaged("two equal keys", (table, pages) -> keys(pages[1])[0] = keys(pages[1])[1]);
-        damaged("falling keys", (table, pages) -> keys(pages[1])[3] = keys(pages[1])[2] - 1);
+        damaged("a number of keys that is too small", (table, pages) -> set(table, "size", 299));
+        damaged("a number of keys that is too large", (table, pages) -> set(table, "size", 301));
+    }
+
+    private static void keysRising() throws ReflectiveOperationException {
+        stillSound("a key one above the one before it", (table, pages) -> keys(pages[1])[1] = keys(pages[1])[0] + 1);
+        damaged("a key equal to the one before it", (table, pages) -> keys(pages[1])[1] = keys(pages[1])[0]);
+        damaged("a key below the one before it", (table, pages) -> keys(pages[1])[3] = keys(pages[1])[2] - 1);
+    }
+
+    private static void betweenTheirBounds() throws ReflectiveOperationException {
+        stillSound("a key at its lower bound", (table, pages) -> keys(pages[1])[0] = read(pages[1], "low"));
         damaged("a key below its bound", (table, pages) -> keys(pages[1])[0] = read(pages[1], "low") - 1);
+        stillSound("a key at its upper bound", (table, pages) ->
+            keys(pages[1])[read(pages[1], "used") - 1] = read(pages[1], "high"));
         damaged("a key above its bound", (table, pages) ->
             keys(pages[1])[read(pages[1], "used") - 1] = read(pages[1], "high") + 1);
+    }
+
+    private static void boundsSideBySide() throws ReflectiveOperationException {
         damaged("a first page that begins too late", (table, pages) -> set(pages[0], "low", -400));
         damaged("a last page that ends too early", (table, pages) -> set(pages[pages.length - 1], "high", 400));
-        damaged("pages with a gap", (table, pages) -> set(pages[1], "low", read(pages[1], "low") - 1));
+        damaged("pages with a gap", (table, pages) -> set(pages[1], "low", read(pages[1], "low") + 1));
+        damaged("pages that overlap", (table, pages) -> set(pages[1], "low", read(pages[1], "low") - 1));
         damaged("two pages of the same keys", (table, pages) -> {
             set(pages[0], "high", Integer.MAX_VALUE);
             set(pages[1], "low", Integer.MIN_VALUE);
@@ -144,17 +170,14 @@ public final class InsideTest {
             set(pages[1], "high", read(pages[1], "low") - 1);
             set(pages[2], "low", read(pages[1], "low"));
         });
-        damaged("a wrong number of keys", (table, pages) -> set(table, "size", 299));
+    }
+
+    private static void viewsThatAreNone() throws ReflectiveOperationException {
         LazyPages x = some();
         keys(pages(view(x, 1))[1])[3] = 0;
+        due("isSound looks at a view", !x.isSound());
         x.drop(1);
         due("isSound looks away from a view that is none", x.isSound());
-        LazyPages y = some();
-        Object map = table(y, "map");
-        fill(map, pages(map)[pages(map).length - 1], 32);
-        due("a full page is as it should be", y.isSound());
-        fill(map, pages(map)[1], 0);
-        due("an empty page is as it should be", y.isSound());
     }
 
     /** Few keys in many pages, over and over: pages must be joined before they run out. */
@@ -178,12 +201,25 @@ public final class InsideTest {
         due("the pages are all used at some time: " + most, most == 40);
     }
 
-    public static void main(String[] args) throws ReflectiveOperationException {
-        settling();
-        splitting();
-        soundness();
-        joining();
-        System.out.println(wrong == 0 ? "the inside is as due" : wrong + " things are not as due");
-        System.exit(wrong == 0 ? 0 : 1);
+    private static void sentence(String place, String words, Look look) {
+        Checks.sentence(place, words, () -> {
+            try {
+                look.inside();
+            } catch (ReflectiveOperationException e) {
+                Checks.tell("the inside is not what the test knows: " + e);
+            }
+        });
+    }
+
+    public static void main(String[] args) {
+        sentence("Promise 17: settle", "All messages that wait in pages go down to where their keys are", InsideTest::settling);
+        sentence("Terms", "how many messages wait in them .. does not show (when a page is split)", InsideTest::splitting);
+        sentence("Terms", "how the map is laid out in pages .. does not show (when pages are joined)", InsideTest::joining);
+        sentence("Promise 22: isSound", "none too long", InsideTest::noneTooLong);
+        sentence("Promise 22: isSound", "keys rising", InsideTest::keysRising);
+        sentence("Promise 22: isSound", "between their bounds", InsideTest::betweenTheirBounds);
+        sentence("Promise 22: isSound", "their bounds (side by side)", InsideTest::boundsSideBySide);
+        sentence("Promise 22: isSound", "all pages (not those of views that are none)", InsideTest::viewsThatAreNone);
+        Checks.end();
     }
 }

@@ -304,11 +304,11 @@ public final class ChangesTest {
         Checks.sentence("Promise 6: raise", "IllegalArgumentException: from is above to", ChangesTest::raiseOfARange);
         Checks.sentence("Promise 6: raise", "UnsupportedOperationException: refused", ChangesTest::raiseIsRefused);
         Checks.sentence("Promise 7: putAll", "PUT of n keys: key, key + step, ..", ChangesTest::putAllOfNKeys);
-        Checks.sentence("Promise 7: putAll", "PUT of n keys: key, key + step, .. (a step of 0)", ChangesTest::putAllOfOneKey);
+        Checks.sentence("Promise 7: putAll (a step of 0)", "PUT of n keys: key, key + step, ..", ChangesTest::putAllOfOneKey);
         Checks.sentence("Promise 7: putAll", "these as ints that wrap", ChangesTest::putAllWrapsKeys);
         Checks.sentence("Promise 7: putAll", "with value, value + grow, ..", ChangesTest::putAllWrapsValues);
-        Checks.sentence("Promise 7: putAll", "how many were accepted, up to the first that is refused (keys)", ChangesTest::putAllUpToAKeyTooMany);
-        Checks.sentence("Promise 7: putAll", "how many were accepted, up to the first that is refused (messages)", ChangesTest::putAllUpToAMessageTooMany);
+        Checks.sentence("Promise 7: putAll (600 keys)", "how many were accepted, up to the first that is refused", ChangesTest::putAllUpToAKeyTooMany);
+        Checks.sentence("Promise 7: putAll (2500 messages)", "how many were accepted, up to the first that is refused", ChangesTest::putAllUpToAMessageTooMany);
         Checks.sentence("Promise 7: putAll", "IllegalArgumentException: n is not 0 .. 300", ChangesTest::putAllOf0To300);
         Checks.end();
     }

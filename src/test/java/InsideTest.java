@@ -154,6 +154,11 @@ public final class InsideTest {
             keys(pages[1])[read(pages[1], "used") - 1] = read(pages[1], "high"));
         damaged("a key above its bound", (table, pages) ->
             keys(pages[1])[read(pages[1], "used") - 1] = read(pages[1], "high") + 1);
+        stillSound("a key at both of its bounds", (table, pages) -> {
+            fill(table, pages[1], 1);
+            set(pages[1], "high", read(pages[1], "low"));
+            set(pages[2], "low", read(pages[1], "low") + 1);
+        });
     }
 
     private static void boundsSideBySide() throws ReflectiveOperationException {
@@ -213,13 +218,13 @@ public final class InsideTest {
 
     public static void main(String[] args) {
         sentence("Promise 17: settle", "All messages that wait in pages go down to where their keys are", InsideTest::settling);
-        sentence("Terms", "how many messages wait in them .. does not show (when a page is split)", InsideTest::splitting);
-        sentence("Terms", "how the map is laid out in pages .. does not show (when pages are joined)", InsideTest::joining);
+        sentence("Terms (a page is split)", "how many messages wait in them, and how often they go on, does not show", InsideTest::splitting);
+        sentence("Terms (pages are joined)", "how the map is laid out in pages, how many messages wait in them, and how often they go on, does not show", InsideTest::joining);
         sentence("Promise 22: isSound", "none too long", InsideTest::noneTooLong);
         sentence("Promise 22: isSound", "keys rising", InsideTest::keysRising);
         sentence("Promise 22: isSound", "between their bounds", InsideTest::betweenTheirBounds);
-        sentence("Promise 22: isSound", "their bounds (side by side)", InsideTest::boundsSideBySide);
-        sentence("Promise 22: isSound", "all pages (not those of views that are none)", InsideTest::viewsThatAreNone);
+        sentence("Promise 22: isSound (bounds side by side)", "between their bounds", InsideTest::boundsSideBySide);
+        sentence("Promise 22: isSound (not of views that are none)", "Whether all pages are as they should be", InsideTest::viewsThatAreNone);
         Checks.end();
     }
 }

@@ -259,7 +259,7 @@ public final class KeepingTest {
     public static void main(String[] args) {
         String settled = "All messages that wait in pages go down to where their keys are";
         Checks.sentence("Promise 17: settle", settled, KeepingTest::settleMessagesThatWait);
-        Checks.sentence("Promise 17: settle", settled + " (also when none waits)", KeepingTest::settleWhenNoneWaits);
+        Checks.sentence("Promise 17: settle (none waits, or values wrap)", settled, KeepingTest::settleWhenNoneWaits);
         Checks.sentence("Promise 18: sync", "how many were not before", KeepingTest::syncAnswers);
         Checks.sentence("Promise 18: sync", "Messages so far are kept", KeepingTest::syncKeeps);
         Checks.sentence("Promise 19: checkpoint", "how many were not kept before", KeepingTest::checkpointAnswers);
@@ -271,7 +271,7 @@ public final class KeepingTest {
         Checks.sentence("Promise 21: total", "2 views", KeepingTest::totalOfViews);
         Checks.sentence("Promise 21: total", "IllegalArgumentException: what is none of these", KeepingTest::totalOfNoneOfThese);
         Checks.sentence("Promise 22: isSound", "Whether all pages are as they should be", KeepingTest::soundAtTheBoundaries);
-        Checks.sentence("Promise 22: isSound", "Whether all pages are as they should be (after each change)", KeepingTest::soundAllTheWay);
+        Checks.sentence("Promise 22: isSound (after each change)", "Whether all pages are as they should be", KeepingTest::soundAllTheWay);
         Checks.end();
     }
 }

@@ -49,6 +49,17 @@ public final class TermsTest {
         Checks.due("call 512, differ", raises.differ(MAP, 3), 600);
     }
 
+    private static void thereOrNot() {
+        LazyPages x = Checks.with(5, 0);
+        Checks.due("a key with the value 0 is there", x.has(MAP, 5), true);
+        Checks.due("the key below it is not", x.has(MAP, 4), false);
+        Checks.due("the key above it is not", x.has(MAP, 6), false);
+        Checks.due("keys", x.count(MAP, LOW, HIGH), 1);
+        x.delete(5, 5);
+        Checks.due("a key that went is not", x.has(MAP, 5), false);
+        Checks.due("keys after a delete", x.count(MAP, LOW, HIGH), 0);
+    }
+
     private static void atMost600Keys() {
         LazyPages x = Checks.withKeys(599);
         x.put(HIGH, 1);
@@ -79,6 +90,21 @@ public final class TermsTest {
         LazyPages z = Checks.withMessages(2499);
         z.delete(LOW, HIGH);
         Checks.refused(z, "a put into the empty map", () -> z.put(0, 0));
+    }
+
+    private static void keptMessagesCountToo() {
+        LazyPages x = Checks.withMessages(2499);
+        x.checkpoint();
+        Checks.due("put as message 2500", x.put(0, 5), 2500);
+        x.sync();
+        x.checkpoint();
+        x.settle();
+        for (Map.Entry<String, Consumer<LazyPages>> more : singleMessages().entrySet()) {
+            Checks.refused(x, more.getKey() + " as message 2501", () -> more.getValue().accept(x));
+        }
+        Checks.due("putAll of message 2501", x.putAll(0, 1, 5, 5, 1), 0);
+        x.save(0);
+        Checks.refused(x, "restore as message 2501", () -> x.restore(0));
     }
 
     private static void numberedAsAccepted() {
@@ -485,28 +511,30 @@ public final class TermsTest {
 
     public static void main(String[] args) {
         Checks.sentence("What it is", "An object is used for at most 512 calls after it has been made", TermsTest::call512);
+        Checks.sentence("Terms", "A KEY is there with a VALUE, or not", TermsTest::thereOrNot);
         Checks.sentence("Terms", "at most 600 keys are there", TermsTest::atMost600Keys);
-        Checks.sentence("Terms", "at most 2500: more are refused", TermsTest::atMost2500Messages);
+        Checks.sentence("Terms (MESSAGES)", "at most 2500: more are refused", TermsTest::atMost2500Messages);
+        Checks.sentence("Terms (MESSAGES that are kept)", "at most 2500: more are refused", TermsTest::keptMessagesCountToo);
         Checks.sentence("Terms", "MESSAGES are numbered 0, 1, .. in the order in which they were accepted", TermsTest::numberedAsAccepted);
         Checks.sentence("Terms", "What a map is, is what all messages make of an empty one, one behind the other", TermsTest::oneBehindTheOther);
         Checks.sentence("Terms", "PUT: the key is there with the value", TermsTest::put);
-        Checks.sentence("Terms", "ADD: the value (0, if the key was not there) and more", TermsTest::addToNone);
-        Checks.sentence("Terms", "ADD: .. and more, wrapping", TermsTest::addWraps);
+        Checks.sentence("Terms (a key that was not there)", "ADD: the value (0, if the key was not there) and more, wrapping", TermsTest::addToNone);
+        Checks.sentence("Terms (a wrap-around)", "ADD: the value (0, if the key was not there) and more, wrapping", TermsTest::addWraps);
         Checks.sentence("Terms", "MOST: the greater one of the value there was and another one", TermsTest::mostIsTheGreater);
-        Checks.sentence("Terms", "MOST: .. that one, if the key was not there", TermsTest::mostOfNone);
+        Checks.sentence("Terms (a key that was not there)", "that one, if the key was not there", TermsTest::mostOfNone);
         Checks.sentence("Terms", "These three are refused when the key is not there and 600 keys are", TermsTest::refusedWhen600KeysAre);
         Checks.sentence("Terms", "DELETE: all keys from one to another one are there no more", TermsTest::deleteFromOneToAnother);
         Checks.sentence("Terms", "RAISE: all values of keys from one to another one that are there get more", TermsTest::raiseFromOneToAnother);
-        Checks.sentence("Terms", "RAISE: .. get more, wrapping", TermsTest::raiseWraps);
+        Checks.sentence("Terms (a wrap-around)", "RAISE: all values of keys from one to another one that are there get more, wrapping", TermsTest::raiseWraps);
         Checks.sentence("Terms", "VIEWS 0 .. 3 have a map each, as it was when it was saved", TermsTest::aMapEach);
         Checks.sentence("Terms", "THE MAP itself is -1", TermsTest::theMapIsMinusOne);
         Checks.sentence("Terms", "A view that was not saved is NONE", TermsTest::notSavedIsNone);
         Checks.sentence("Terms", "KEPT are messages when sync() or checkpoint() is called", TermsTest::keptWhenCalled);
         Checks.sentence("Terms", "CRASH: messages that are not kept were never accepted", TermsTest::neverAccepted);
-        Checks.sentence("Terms", "CRASH: messages that are not kept were never accepted (so there is room again)", TermsTest::roomAfterACrash);
-        Checks.sentence("Terms", "CRASH: .. and all views are none", TermsTest::allViewsAreNone);
-        Checks.sentence("Terms", "how many messages wait in them, and how often they go on, does not show", TermsTest::theLayoutDoesNotShow);
-        Checks.sentence("Terms", "how the map is laid out in pages .. does not show", TermsTest::theOrderOfKeysDoesNotShow);
+        Checks.sentence("Terms (room again behind a full map)", "CRASH: messages that are not kept were never accepted", TermsTest::roomAfterACrash);
+        Checks.sentence("Terms (CRASH)", "and all views are none", TermsTest::allViewsAreNone);
+        Checks.sentence("Terms (settled and kept)", "Also those messages of which a checkpoint is made; how the map is laid out in pages, how many messages wait in them, and how often they go on, does not show", TermsTest::theLayoutDoesNotShow);
+        Checks.sentence("Terms (other orders of keys)", "how the map is laid out in pages, how many messages wait in them, and how often they go on, does not show", TermsTest::theOrderOfKeysDoesNotShow);
         Checks.sentence("Terms", "Methods throw what their comments name, the one named first when several would do", TermsTest::theOneNamedFirst);
         Checks.sentence("Terms", "IndexOutOfBoundsException: view is not -1 .. 3, or none", TermsTest::onlyTheMapAndSavedViews);
         Checks.sentence("Terms", "A call that throws changes nothing", TermsTest::aCallThatThrowsChangesNothing);

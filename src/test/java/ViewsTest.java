@@ -240,8 +240,8 @@ public final class ViewsTest {
 
     public static void main(String[] args) {
         Checks.sentence("Promise 13: save", "A view becomes the map as it is now", ViewsTest::saveTheMapAsItIs);
-        Checks.sentence("Promise 13: save", "A view becomes the map as it is now (empty, full)", ViewsTest::saveEmptyAndFull);
-        Checks.sentence("Promise 13: save", "A view becomes the map as it is now (no message)", ViewsTest::saveAtTheLastMessage);
+        Checks.sentence("Promise 13: save (empty and full)", "A view becomes the map as it is now", ViewsTest::saveEmptyAndFull);
+        Checks.sentence("Promise 13: save (at the last message)", "A view becomes the map as it is now", ViewsTest::saveAtTheLastMessage);
         Checks.sentence("Promise 13: save", "IndexOutOfBoundsException: it is not 0 .. 3", ViewsTest::saveOfAView);
         Checks.sentence("Promise 14: drop", "whether it was one", ViewsTest::dropWhetherItWasOne);
         Checks.sentence("Promise 14: drop", "A view is none any more", ViewsTest::dropMakesNone);
@@ -249,11 +249,11 @@ public final class ViewsTest {
         Checks.sentence("Promise 15: restore", "The map becomes what a view has", ViewsTest::restoreTheMap);
         Checks.sentence("Promise 15: restore", "by messages: a DELETE of all keys and PUTs of those of the view, by rising keys: how many messages there are", ViewsTest::restoreByMessages);
         Checks.sentence("Promise 15: restore", "IndexOutOfBoundsException: it is not 0 .. 3", ViewsTest::restoreOfAView);
-        Checks.sentence("Promise 15: restore", "IndexOutOfBoundsException: .. or none", ViewsTest::restoreOfNone);
+        Checks.sentence("Promise 15: restore (none)", "IndexOutOfBoundsException: it is not 0 .. 3, or none", ViewsTest::restoreOfNone);
         Checks.sentence("Promise 15: restore", "UnsupportedOperationException: they would be too many", ViewsTest::restoreOfTooMany);
         Checks.sentence("Promise 16: differ", "How many keys in two views (or the map) are in one alone", ViewsTest::differInOneAlone);
         Checks.sentence("Promise 16: differ", "or have other values", ViewsTest::differInValues);
-        Checks.sentence("Promise 16: differ", "two views (or the map), each with itself", ViewsTest::differFromItself);
+        Checks.sentence("Promise 16: differ (each with itself)", "How many keys in two views (or the map) are in one alone, or have other values", ViewsTest::differFromItself);
         Checks.sentence("Promise 16: differ", "IndexOutOfBoundsException", ViewsTest::differOfViews);
         Checks.end();
     }

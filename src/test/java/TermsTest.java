@@ -31,6 +31,80 @@ public final class TermsTest {
         return readings;
     }
 
+    private static Map<String, Consumer<LazyPages>> callsThatAreNoMessages() {
+        Map<String, Consumer<LazyPages>> calls = new LinkedHashMap<>();
+        for (Map.Entry<String, Checks.OfView> entry : readings().entrySet()) {
+            calls.put(entry.getKey() + " of the map", x -> entry.getValue().call(x, MAP));
+            calls.put(entry.getKey() + " of a view", x -> entry.getValue().call(x, 0));
+        }
+        calls.put("save", x -> x.save(1));
+        calls.put("drop", x -> x.drop(1));
+        calls.put("settle", x -> x.settle());
+        calls.put("sync", x -> x.sync());
+        calls.put("checkpoint", x -> x.checkpoint());
+        calls.put("total", x -> x.total(0));
+        calls.put("isSound", x -> x.isSound());
+        return calls;
+    }
+
+    private static void changesAreMessages() {
+        LazyPages x = Checks.withKeys(600);
+        int messages = 600;
+        for (Map.Entry<String, Consumer<LazyPages>> entry : singleMessages().entrySet()) {
+            entry.getValue().accept(x);
+            messages++;
+            Checks.due("messages after " + entry.getKey(), x.total(0), messages);
+        }
+        x.raise(LOW, HIGH, 1);
+        Checks.due("messages after a raise of all keys", x.total(0), messages + 1);
+        x.delete(LOW, HIGH);
+        Checks.due("messages after a delete of all keys", x.total(0), messages + 2);
+        LazyPages y = Checks.with(1, 10, 2, 20);
+        y.raise(1, 2, 5);
+        y.save(0);
+        for (Map.Entry<String, Consumer<LazyPages>> entry : callsThatAreNoMessages().entrySet()) {
+            entry.getValue().accept(y);
+            Checks.due("messages after " + entry.getKey(), y.total(0), 3);
+            Checks.dueContent("the map after " + entry.getKey(), y, MAP, 1, 15, 2, 25);
+        }
+    }
+
+    private static void viewsOfSomeMoment() {
+        Map<String, Consumer<LazyPages>> calls = new LinkedHashMap<>(singleMessages());
+        calls.put("putAll", x -> x.putAll(0, 1, 70, 1, 3));
+        calls.put("restore", x -> x.restore(0));
+        calls.putAll(callsThatAreNoMessages());
+        for (Map.Entry<String, Consumer<LazyPages>> entry : calls.entrySet()) {
+            LazyPages x = Checks.with(1, 5);
+            x.save(0);
+            x.put(0, 3);
+            x.raise(0, 1, 1);
+            x.save(2);
+            entry.getValue().accept(x);
+            Checks.dueContent("a view after " + entry.getKey(), x, 2, 0, 4, 1, 6);
+            Checks.dueContent("one of an earlier moment after " + entry.getKey(), x, 0, 1, 5);
+        }
+    }
+
+    private static void keptComesAgain() {
+        Map<String, Consumer<LazyPages>> losses = new LinkedHashMap<>(singleMessages());
+        losses.put("putAll", x -> x.putAll(0, 1, 70, 1, 3));
+        losses.put("restore", x -> x.restore(0));
+        losses.put("delete of all", x -> x.delete(LOW, HIGH));
+        for (Map.Entry<String, Consumer<LazyPages>> entry : losses.entrySet()) {
+            LazyPages x = Checks.with(1, 5);
+            x.save(0);
+            x.put(0, 3);
+            x.raise(0, 1, 1);
+            x.sync();
+            entry.getValue().accept(x);
+            x.crash();
+            Checks.dueContent("lost is " + entry.getKey(), x, MAP, 0, 4, 1, 6);
+            Checks.due("messages, lost is " + entry.getKey(), x.total(0), 3);
+            Checks.due("views, lost is " + entry.getKey(), x.total(2), 0);
+        }
+    }
+
     private static void call512() {
         LazyPages adds = new LazyPages();
         for (int call = 1; call <= 512; call++) {
@@ -510,6 +584,9 @@ public final class TermsTest {
     }
 
     public static void main(String[] args) {
+        Checks.sentence("What it is", "takes its changes as messages, single ones and for whole ranges", TermsTest::changesAreMessages);
+        Checks.sentence("What it is", "views of it as it was at some moment", TermsTest::viewsOfSomeMoment);
+        Checks.sentence("What it is", "what was kept comes again when all else is lost", TermsTest::keptComesAgain);
         Checks.sentence("What it is", "An object is used for at most 512 calls after it has been made", TermsTest::call512);
         Checks.sentence("Terms", "A KEY is there with a VALUE, or not", TermsTest::thereOrNot);
         Checks.sentence("Terms", "at most 600 keys are there", TermsTest::atMost600Keys);
